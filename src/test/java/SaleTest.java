@@ -14,6 +14,7 @@ public final class SaleTest {
         claimedDays();
         claimedDaysOfSeveral();
         proving();
+        tearingClosedOnes();
         DUE.end();
     }
 
@@ -278,5 +279,36 @@ public final class SaleTest {
         DUE.is("check", x.check(), 0);
         x.day(100);
         DUE.is("first day stays", x.told(1, 8), 55);
+    }
+
+    /** Tearing is the one act that a closed ticket bears beside fetching: it leaves all coins as they are. */
+    private static void tearingClosedOnes() {
+        PledgeHouse x = forfeited();
+        x.rule(2, 5);
+        x.bid(1, 2000);
+        x.sale(1);
+        x.day(3);
+        DUE.is("tear a sold one", x.tear(1, 0), 0);
+        DUE.is("over", x.told(1, 12), 860);
+        DUE.is("costs", x.sum(3), 100);
+        x.day(2);
+        x.image();
+        DUE.is("fetch with any half", x.fetch(1, 1999), 860);
+        x.back();
+        x.day(1);
+        DUE.is("kept as long as it was", x.fetch(1, 1999), -5);
+        PledgeHouse y = forfeited();
+        y.bid(1, 2000);
+        y.sale(1);
+        y.fetch(1, 1000);
+        y.tear(1, 1);
+        DUE.is("fetched stays fetched", y.fetch(1, 1000), -2);
+        DUE.is("fetched coins", y.sum(5), 860);
+        PledgeHouse z = forfeited();
+        z.claim(1);
+        z.prove(1);
+        z.tear(1, 0);
+        DUE.is("loss stays", z.sum(7), 1040);
+        DUE.is("check", z.check(), 0);
     }
 }
