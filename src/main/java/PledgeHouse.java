@@ -326,14 +326,10 @@ public final class PledgeHouse {
         if (t == null || !isWithin(item, 0, MOST_ITEMS - 1)) {
             return NO_SUCH;
         }
-        int why = whyNotInTerm(t);
-        if (why < 0) {
-            return why;
-        }
         if (!(now.pledgeOn(t.shelf) instanceof Lot lot) || lot.valueOf(item) == 0) {
             return NOT_SO;
         }
-        why = whyNotByHolder(t, half);
+        int why = whyNotByHolder(t, half);
         if (why < 0) {
             return why;
         }

@@ -116,8 +116,13 @@ public final class FaceTest {
             x.redeem(ticket, x.half(), 102);
         }
         x.thing(0, 1000);
+        DUE.is("a wrong place first", x.lend(40, 100, 1), -1);
+        DUE.is("no pledge first", x.lend(1, 100, 1), -2);
         DUE.is("a wrong number first", x.lend(0, 0, 1), -6);
         DUE.is("no more room", x.lend(0, 100, 1), -7);
+        DUE.is("its status", x.status(), -7);
+        DUE.is("under no ticket", x.place(0, 2), 0);
+        DUE.is("nothing was lent", x.sum(0), 51100);
         DUE.is("tickets", x.sum(12), 511);
         DUE.is("no such ticket", x.told(512, 0), -1);
         DUE.is("the latest half", x.half(), 511700);
