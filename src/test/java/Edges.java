@@ -95,6 +95,14 @@ final class Edges {
         return this;
     }
 
+    /** The act is refused with -1 for each number that may stand in it for the X. */
+    Edges noSuch(String act, String... numbers) {
+        for (String number : numbers) {
+            refused(act.replace("X", number), -1);
+        }
+        return this;
+    }
+
     private void leavesAlike(Call refused, List<Call> probe, PledgeHouse without, PledgeHouse with) {
         due.is(name(refused) + " and its probe stay in the calls of an object",
             calls.size() + 1 + probe.size() <= MOST_CALLS ? 1 : 0, 1);

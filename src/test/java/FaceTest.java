@@ -3,6 +3,8 @@ import java.lang.reflect.Constructor;
 import java.lang.reflect.Field;
 import java.lang.reflect.Method;
 import java.lang.reflect.Modifier;
+import java.nio.file.Files;
+import java.nio.file.Path;
 import java.util.Arrays;
 import java.util.Random;
 import java.util.TreeSet;
@@ -22,6 +24,8 @@ public final class FaceTest {
 
     public static void main(String[] args) throws Exception {
         face();
+        faceOfTheDocument();
+        faceOfTheReadme();
         namesOfTheFaceStandOnce();
         wildArguments();
         room();
@@ -59,6 +63,28 @@ public final class FaceTest {
         }
         DUE.is("fields that are not private", open, 1);
         DUE.is("NONE", PledgeHouse.NONE, -1);
+    }
+
+    /** FACE is what the document has: "public int rule(int rule, int v);" stands there as "int rule(int,int)". */
+    private static void faceOfTheDocument() {
+        TreeSet<String> found = new TreeSet<>();
+        for (String line : Document.lines()) {
+            if (line.matches(" {4}public (int|long) \\w+\\(.*\\);")) {
+                found.add(line.replaceAll(" *public |;", "").replaceAll("(int|float) \\w+(?=[,)])", "$1")
+                    .replace(", ", ","));
+            }
+        }
+        if (!found.isEmpty()) {
+            DUE.is("the document's face " + found, found.equals(new TreeSet<>(Arrays.asList(FACE))) ? 1 : 0, 1);
+        }
+    }
+
+    private static void faceOfTheReadme() throws Exception {
+        String readme = Files.readString(Path.of("README.md"));
+        for (String shape : FACE) {
+            String name = shape.substring(shape.indexOf(' ') + 1, shape.indexOf('('));
+            DUE.is("README.md tells of " + name, readme.contains("| `" + name + "(") ? 1 : 0, 1);
+        }
     }
 
     private static void namesOfTheFaceStandOnce() {
