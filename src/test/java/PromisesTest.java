@@ -228,8 +228,9 @@ public final class PromisesTest {
             (ticket; item not 0 .. 5), -2 (also: no LOT, or that item is not in it), -3, -4, -6 (it is the last one,
             or the rest bears less).""")
             .in(LOT).noSuch("out(X, 1504, 0)", NO_TICKETS).refused("out(1, 1504, -1)", -1)
-            .refused("out(1, 1504, 6)", -1).refused("out(1, 9, 3)", -2).refused("out(1, 1505, 0)", -4)
-            .taken("out(1, 1504, 0)", 500).taken("out(1, 1504, 1)", 600).taken("out(1, 1504, 2)", 700)
+            .refused("out(1, 1504, 6)", -1).refused("out(1, 9, 3)", -2).refused("out(1, 9, 5)", -2)
+            .refused("out(1, 1505, 0)", -4).taken("out(1, 1504, 0)", 500).taken("out(1, 1504, 1)", 600)
+            .taken("out(1, 1504, 2)", 700)
             .in(LOT + "out(1, 1504, 0)").looks("place(1, 5)", 2).looks("place(1, 1)", 500)
             .refused("out(1, 1504, 0)", -2).refused("out(1, 1504, 1)", -6).refused("out(1, 1504, 2)", -6)
             .in(LOT + "out(1, 1504, 0) pay(1, 1504, 100)").taken("out(1, 1504, 1)", 200)
@@ -317,6 +318,8 @@ public final class PromisesTest {
             .looks("half()", 1404).looks("place(0, 0)", -1).looks("place(1, 1)", 1500).looks("place(1, 2)", 1)
             .looks("as(8, 0)", 900).looks("as(9, 0)", -1).sums(0, 900, 0, 0, 0, 0, 0, 0, 0, 900, 18, 1, 1, 1)
             .taken("back()", 0).taken("day(1)", 9)
+            .in(LENT + "image() " + gone + "back() thing(0, 9) lend(0, 5, 1)").tells(2, 6, 20)
+            .in(LENT + "image() thing(0, 9) back()").sums(11, 1)
             .in("day(8) image() day(9) back() day(3) back()").taken("day(1)", 9);
     }
 

@@ -205,6 +205,8 @@ public final class TermsTest {
             .in(LENT + "day(30)").tells(1, 2, 30)
             .in("thing(39, 2000) lend(39, 700, 1)").tells(1, 2, 14)
             .in("thing(39, 2000) lend(39, 701, 1)").tells(1, 2, 15)
+            .in("thing(39, 2000) rule(4, 1) lend(39, 1000, 1)").tells(1, 2, 1)
+            .in("thing(39, 2000) rule(4, 1) lend(39, 1001, 1)").tells(1, 2, 2)
             .in(LENT + "pay(1, 1253, 45) day(29)").tells(1, 1, 700, 0)
             .in(LENT + "pay(1, 1253, 45) day(30)").tells(1, 1, 700, 14)
             .in(LENT + "day(30) pay(1, 1253, 60) day(30)").tells(1, 1, 700, 14)
